@@ -41,32 +41,42 @@ public final class CabinPeace {
     private static final int ENDED_IN_RING = 1;
     private static final int ENDED_BY_MOST = 2;
 
-    private final Tray[] trays = new Tray[MOST_TRAYS];
-    private final Wish[] wishes = new Wish[MOST_PEOPLE];
-    private final People people = new People();
+    private final Tray[] trays;
+    private final Wish[] wishes;
+    private final People people;
     private final Reader reader;
     private final Worths worths;
     private final Search search;
     private final Peace peace;
-    private final Parting told = new Parting();
-    private final int[] trail = new int[MOST_STEPS + 1];
+    private final Parting told;
+    private final int[] trail;
     private int status = FINE;
     private int ranEnd = NONE;
     private int ringFrom = 0;
     private int ringSteps = 0;
 
     public CabinPeace() {
+        People newPeople = new People();
         long[] stack = new long[Wish.STACK];
-        for (int i = 0; i < MOST_TRAYS; i++) {
-            trays[i] = new Tray();
-        }
+        Wish[] newWishes = new Wish[MOST_PEOPLE];
         for (int i = 0; i < MOST_PEOPLE; i++) {
-            wishes[i] = new Wish(stack);
+            newWishes[i] = new Wish(stack);
         }
-        reader = new Reader(people, new Wish(stack));
-        worths = new Worths(people, wishes);
-        search = new Search(people, worths);
-        peace = new Peace(people, worths, search);
+        Tray[] newTrays = new Tray[MOST_TRAYS];
+        for (int i = 0; i < MOST_TRAYS; i++) {
+            newTrays[i] = new Tray();
+        }
+        Worths newWorths = new Worths(newPeople, newWishes);
+        Search newSearch = new Search(newPeople, newWorths);
+        trays = newTrays;
+        wishes = newWishes;
+        people = newPeople;
+        reader = new Reader(newPeople, new Wish(stack));
+        worths = newWorths;
+        search = newSearch;
+        peace = new Peace(newPeople, newWorths, newSearch);
+        told = new Parting();
+        trail = new int[MOST_STEPS + 1];
     }
 
     public int status() {
@@ -1690,11 +1700,12 @@ public final class CabinPeace {
         int gained = 0;
 
         Search(People people, Worths worths) {
+            World newWorld = new World(people, worths);
             this.people = people;
             this.worths = worths;
-            world = new World(people, worths);
-            partings = new Partings(world);
-            breaks = new Breaks(world, worths);
+            world = newWorld;
+            partings = new Partings(newWorld);
+            breaks = new Breaks(newWorld, worths);
             for (int p = 0; p < MOST_PEOPLE; p++) {
                 goneRoom[p] = NONE;
             }
@@ -1948,6 +1959,7 @@ public final class CabinPeace {
         private final int[] slim = new int[MOST_PARTINGS];
         private int slims = 0;
         private int fewestPairs = 0;
+        private int slimPairs = 0;
         final int[] row = new int[MOST_WEEKS];
         private final int[] draft = new int[MOST_WEEKS];
         int planned = 0;
@@ -2031,12 +2043,14 @@ public final class CabinPeace {
         /** Later partings have smaller groups, so the way from the last one on meets the least sets first. */
         private void learnPairs() {
             slims = 0;
+            slimPairs = 0;
             fewestPairs = ENDLESS;
             for (int i = many - 1; i >= 0; i--) {
                 int pairs = pairsOf(keys[i]);
                 if (!hasSlimWithin(pairs)) {
                     slim[slims] = pairs;
                     slims++;
+                    slimPairs |= pairs;
                     fewestPairs = Math.min(fewestPairs, Integer.bitCount(pairs));
                 }
             }
@@ -2056,7 +2070,7 @@ public final class CabinPeace {
             if (weeksLeft <= 0) {
                 return true;
             }
-            int free = people.many * (people.many - 1) / 2 - Integer.bitCount(used);
+            int free = Integer.bitCount(slimPairs & ~used);
             if (slims == 0 || (long) weeksLeft * fewestPairs > free) {
                 return false;
             }
