@@ -21,9 +21,13 @@ public final class AgainstOracleTest {
     int wrong = 0;
     long calls = 0;
     for (long s = seed; s < seed + runs && wrong < 3; s++) {
-      int most = args.length > 3 ? Integer.parseInt(args[3]) : s % 50 == 0 ? 7 : s % 5 == 0 ? 6 : 5;
+      int most = args.length > 3 ? Integer.parseInt(args[3]) : s % 100 == 50 ? 8 : s % 50 == 0 ? 7 : s % 5 == 0 ? 6 : 5;
       AgainstOracleTest run = new AgainstOracleTest(s, most);
-      run.play();
+      if (s % 20 == 7 && args.length < 4) {
+        run.playLongRuns();
+      } else {
+        run.play();
+      }
       calls += run.both.calls.size();
       if (run.both.wrong > 0) {
         wrong++;
@@ -49,6 +53,30 @@ public final class AgainstOracleTest {
     for (int t = 0; t < 3; t++) { tellSome(t); }
     int calls = 60 + pick(60);
     for (int i = 0; i < calls && both.wrong == 0; i++) { ask(); }
+  }
+
+  /** Eight people with worths that look like chance: runs of many steps, with rings far behind the start. */
+  private void playLongRuns() {
+    for (int i = 0; i < 8; i++) { addPerson(1); }
+    for (int p = 0; p < 8; p++) {
+      StringBuilder b = new StringBuilder("add 0");
+      while (b.length() < 270) {
+        b.append(chance(50) ? '+' : '-').append(pick(1000));
+        for (int i = 1 + pick(3); i > 0; i--) { b.append('*').append(NAMES[pick(7)]); }
+      }
+      both.wish(p, b.append(';').toString());
+    }
+    for (int i = 0; i < 25 && both.wrong == 0; i++) {
+      both.call("tray", 0, pick(4), 8);
+      for (int p = 0; p < 8; p++) { both.call("write", 0, p, pick(8)); }
+      both.call("pour", 0, 0, 0, 0, 8);
+      int kind = chance(70) ? 1 : pick(6);
+      both.call("breaks", 0, kind);
+      both.call("first", 0, kind, pick(2));
+      both.call("run", 0, kind, chance(70) ? 200 : 1 + pick(20));
+      for (int what = 0; what < 3; what++) { both.call("ran", what); }
+      readAll(0);
+    }
   }
 
   private int sizesSet() { return chance(50) ? 1 + pick(255) : 1 << pick(3) | 1 << pick(4) | pick(4); }

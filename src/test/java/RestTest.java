@@ -5,6 +5,7 @@ public final class RestTest {
   public static void main(String[] args) {
     gain();
     gainOfBars();
+    gainOfKin();
     weeks();
     weeksOfKin();
     week();
@@ -55,6 +56,20 @@ public final class RestTest {
     T.fine(33, "alone 3; then with b 1", c, c.gain(4, 0, 0), -2);
     Check.wish(c, 0, "add 3 if size=1; add 0-9 if size=1;");
     T.fine(33, "with b 0; then alone 0-6", c, c.gain(4, 0, 1), -6);
+  }
+
+  /** a is with its kin for 5; without that word it would rather be alone for 3, which is then worth 3 against 1. */
+  private static void gainOfKin() {
+    CabinPeace c = new CabinPeace();
+    c.person(1, 4);
+    c.person(2, 4);
+    c.person(3, 0);
+    Check.wish(c, 0, "add 4*kin; add 3 if size=1; add 1 if size=2;");
+    c.must(0, 2, false);
+    T.fine(33, "with b 5; then alone 3", c, c.gain(4, 0, 0), -2);
+    T.fine(33, "with b both times", c, c.gain(4, 0, 1), 0);
+    Check.wish(c, 0, "add 4*c; add 2*kin; add 1 if size=1;");
+    T.fine(33, "with b 2; then alone 1", c, c.gain(4, 0, 1), -1);
   }
 
   private static void weeks() {

@@ -9,6 +9,7 @@ public final class WishesTest {
     feed();
     wish();
     faults();
+    edgesOfText();
     faultsOfDepthAndMany();
     worth();
     worthCut();
@@ -192,12 +193,32 @@ public final class WishesTest {
     fault("add c ~", 3, 4);
   }
 
+  /** What is on the tape behind the first n bytes is no part of the text; a name may have all its eight letters. */
+  private static void edgesOfText() {
+    CabinPeace c = Check.people(1);
+    Check.feed(c, "add 12345;");
+    T.none(11, "add 1234", c, c.wish(0, 8), 9);
+    T.due(12, "the end", c.fault(0) * 100 + c.fault(1), 208);
+    Check.feed(c, "addd 1;");
+    T.none(11, "add", c, c.wish(0, 3), 9);
+    T.due(12, "the end", c.fault(0) * 100 + c.fault(1), 203);
+    c.person(Check.name("abcdefgh"), 0);
+    T.fine(11, "eight letters", c, Check.wish(c, 0, "add 5*abcdefgh;"), 1);
+    T.fine(13, "eight letters", c, c.worth(0, 3), 5);
+    T.none(11, "nine letters", c, Check.wish(c, 0, "add 5*abcdefghi;"), 9);
+    T.due(12, "nine letters", c.fault(0) * 100 + c.fault(1), 306);
+    T.none(11, "seven letters", c, Check.wish(c, 0, "add 5*abcdefg;"), 9);
+    T.fine(13, "the wish stays", c, c.worth(0, 3), 5);
+  }
+
   private static void faultsOfDepthAndMany() {
     fault("add ((((((1))))));", 0, -1);
     fault("add (((((((1)))))));", 5, 10);
     fault("add (((((( (", 5, 11);
     fault("add ((((((1)))))) + ((((((1))))));", 0, -1);
     fault("bar 1=(((((((1)))))));", 5, 12);
+    fault("bar ((((((1))))))=((((((1))))));", 0, -1);
+    fault("add 1 if (((((((1)))))))=1;", 5, 15);
     fault("add 1;".repeat(12), 0, -1);
     fault("add 1;".repeat(12) + " bar", 4, 73);
     fault("add 1;".repeat(12) + "add ~", 4, 72);
