@@ -143,6 +143,7 @@ public final class CabinPeace {
             return none(THERE_ALREADY);
         }
         people.add(name, kin);
+        worths.refresh();
         forget();
         return answer(people.many - 1);
     }
@@ -193,6 +194,7 @@ public final class CabinPeace {
         wishes[person] = reader.draft;
         reader.draft = old;
         worths.forgetWish(person);
+        worths.refresh();
         forget();
         return answer(wishes[person].sayings);
     }
@@ -208,7 +210,6 @@ public final class CabinPeace {
         if (!people.has(person) || !people.isGroupWith(group, person)) {
             return none(CANNOT_BE);
         }
-        worths.refresh();
         return answer(worths.plain(person, group));
     }
 
@@ -216,7 +217,6 @@ public final class CabinPeace {
         if (!people.has(person) || !people.isGroupWith(group, person)) {
             return none(CANNOT_BE);
         }
-        worths.refresh();
         return answer(worths.isBarred(person, group) ? 1 : 0);
     }
 
@@ -224,7 +224,6 @@ public final class CabinPeace {
         if (!people.has(person) || !people.isGroupWith(group, person) || !people.isGroupWith(other, person)) {
             return none(CANNOT_BE);
         }
-        worths.refresh();
         return answer(worths.better(person, group, other) ? 1 : 0);
     }
 
@@ -368,7 +367,11 @@ public final class CabinPeace {
         if (!isKind(kind) || what < 0 || what > 6) {
             return none(CANNOT_BE);
         }
-        search.seekMends(kind);
+        if (search.beginMends(kind)) {
+            search.tryWords();
+            search.trySizes();
+            search.tryPeople();
+        }
         int found = search.mends[what];
         return found == NONE ? none(NONE_SUCH) : answer(found);
     }
@@ -725,33 +728,26 @@ public final class CabinPeace {
         }
 
         private long work(int begin, int end, int group, int kin) {
+            int size = Integer.bitCount(group);
             int top = 0;
             for (int at = begin; at < end; at++) {
                 int word = code[at];
-                if (word < PLUS) {
-                    stack[top & STACK - 1] = leaf(word, group, kin);
+                int last = top - 1 & STACK - 1;
+                int left = top - 2 & STACK - 1;
+                if (word < NAMES) {
+                    stack[top & STACK - 1] = word;
+                    top++;
+                } else if (word < PLUS) {
+                    stack[top & STACK - 1] = word == SIZE ? size : word == KIN ? kin : group >> word - NAMES & 1;
                     top++;
                 } else if (word == NOT) {
-                    int last = top - 1 & STACK - 1;
                     stack[last] = 1 - stack[last];
                 } else {
-                    int right = top - 1 & STACK - 1;
-                    int left = top - 2 & STACK - 1;
-                    stack[left] = join(word, stack[left], stack[right]);
+                    stack[left] = join(word, stack[left], stack[last]);
                     top--;
                 }
             }
             return stack[0];
-        }
-
-        private static long leaf(int word, int group, int kin) {
-            if (word < NAMES) {
-                return word;
-            }
-            if (word == SIZE) {
-                return Integer.bitCount(group);
-            }
-            return word == KIN ? kin : group >> word - NAMES & 1;
         }
 
         private static long join(int word, long left, long right) {
@@ -800,18 +796,24 @@ public final class CabinPeace {
         private static final int SAYING_TOO_MANY = 4;
         private static final int TOO_DEEP = 5;
         private static final int DEEPEST = 6;
+        private static final int LONGEST_NAME = 8;
+        private static final int MOST_DIGITS = 4;
 
         private final People people;
         private final byte[] tape = new byte[LONGEST_TEXT];
+        /** The tokens of the text, up to its end or to the first place where none begins. */
+        private final int[] sorts = new int[LONGEST_TEXT + 1];
+        private final int[] places = new int[LONGEST_TEXT + 1];
+        private final long[] values = new long[LONGEST_TEXT + 1];
+        private int tokens = 0;
+        /** The token that is looked at. */
+        private int at = 0;
+        private int token = END;
+        private long value = 0;
         Wish draft;
         int fed = 0;
         int faultKind = NONE;
         int faultPlace = NONE;
-        private int length = 0;
-        private int at = 0;
-        private int token = END;
-        private int begin = 0;
-        private long value = 0;
 
         Reader(People people, Wish draft) {
             this.people = people;
@@ -838,11 +840,11 @@ public final class CabinPeace {
 
         /** Reads the first n bytes of the tape into the draft: whether there is no fault. */
         boolean readText(int n) {
-            length = Math.min(n, fed);
-            at = 0;
+            cutIntoTokens(Math.min(n, fed));
             faultKind = 0;
             faultPlace = NONE;
             draft.clear();
+            at = NONE;
             advance();
             for (int i = 0; i <= MOST_SAYINGS && token != END && faultKind == 0; i++) {
                 readSaying();
@@ -850,75 +852,81 @@ public final class CabinPeace {
             return faultKind == 0;
         }
 
-        private void fail(int kind) {
-            if (faultKind == 0) {
-                faultKind = kind;
-                faultPlace = begin;
-                token = BAD;
+        private void cutIntoTokens(int length) {
+            int next = 0;
+            tokens = 0;
+            for (int i = 0; i < length && next < length; i++) {
+                while (next < length && (tape[next] == 10 || tape[next] == 32)) {
+                    next++;
+                }
+                if (next < length) {
+                    int begin = next;
+                    next = takeToken(begin, length);
+                    places[tokens] = begin;
+                    tokens++;
+                    if (sorts[tokens - 1] == BAD) {
+                        return;
+                    }
+                }
             }
+            sorts[tokens] = END;
+            places[tokens] = length;
+        }
+
+        /** Takes the token that begins at a place: the place behind it. */
+        private int takeToken(int begin, int length) {
+            byte b = tape[begin];
+            if (b >= 'a' && b <= 'z') {
+                return takeWord(begin, length);
+            }
+            if (b >= '0' && b <= '9') {
+                return takeNumber(begin, length);
+            }
+            boolean sign = b == ';' || b == '<' || b == '>' || b == '=' || b == '+'
+                || b == '-' || b == '*' || b == '(' || b == ')';
+            sorts[tokens] = sign ? SIGN : BAD;
+            values[tokens] = b;
+            return begin + 1;
+        }
+
+        private int takeWord(int begin, int length) {
+            long word = 0;
+            int end = begin;
+            while (end < length && tape[end] >= 'a' && tape[end] <= 'z') {
+                word = word << 5 | tape[end] - 'a' + 1;
+                end++;
+            }
+            sorts[tokens] = WORD;
+            values[tokens] = end - begin > LONGEST_NAME ? NO_WORD : word;
+            return end;
+        }
+
+        private int takeNumber(int begin, int length) {
+            long number = 0;
+            int end = begin;
+            while (end < length && tape[end] >= '0' && tape[end] <= '9') {
+                number = number * 10 + tape[end] - '0';
+                end++;
+            }
+            sorts[tokens] = end - begin > MOST_DIGITS ? BAD : NUMBER;
+            values[tokens] = number;
+            return end;
         }
 
         private void advance() {
-            if (faultKind != 0) {
-                return;
-            }
-            while (at < length && (tape[at] == 10 || tape[at] == 32)) {
+            if (faultKind == 0 && at < LONGEST_TEXT) {
                 at++;
-            }
-            begin = at;
-            if (at >= length) {
-                token = END;
-            } else if (isLetter(tape[at])) {
-                takeWord();
-            } else if (isDigit(tape[at])) {
-                takeNumber();
-            } else if (isSignByte(tape[at])) {
-                token = SIGN;
-                value = tape[at];
-                at++;
-            } else {
-                fail(NO_TOKEN);
+                token = sorts[at];
+                value = values[at];
             }
         }
 
-        private static boolean isLetter(byte b) {
-            return b >= 'a' && b <= 'z';
-        }
-
-        private static boolean isDigit(byte b) {
-            return b >= '0' && b <= '9';
-        }
-
-        private static boolean isSignByte(byte b) {
-            return b == ';' || b == '<' || b == '>' || b == '=' || b == '+'
-                || b == '-' || b == '*' || b == '(' || b == ')';
-        }
-
-        private void takeWord() {
-            token = WORD;
-            value = 0;
-            while (at < length && isLetter(tape[at])) {
-                if (at - begin < 8) {
-                    value = value << 5 | tape[at] - 'a' + 1;
-                }
-                at++;
-            }
-            if (at - begin > 8) {
-                value = NO_WORD;
-            }
-        }
-
-        private void takeNumber() {
-            token = NUMBER;
-            value = 0;
-            while (at < length && isDigit(tape[at])) {
-                if (at - begin < 4) {
-                    value = value * 10 + tape[at] - '0';
-                }
-                at++;
-            }
-            if (at - begin > 4) {
-                fail(NO_TOKEN);
+        /** A fault at the token that is looked at; no token is looked at from then on. */
+        private void fail(int kind) {
+            if (faultKind == 0) {
+                faultKind = token == BAD ? NO_TOKEN : kind;
+                faultPlace = places[at];
+                token = BAD;
             }
         }
 
@@ -930,53 +938,52 @@ public final class CabinPeace {
             return token == SIGN && value == sign;
         }
 
-        private void expectSign(char sign) {
-            if (isSign(sign)) {
-                advance();
-            } else {
-                fail(CANNOT_STAND);
-            }
-        }
-
         private void readSaying() {
             boolean bar = isWord(BAR);
             if (!bar && !isWord(ADD)) {
                 fail(CANNOT_STAND);
-            } else if (draft.sayings >= MOST_SAYINGS) {
+                return;
+            }
+            if (draft.sayings >= MOST_SAYINGS) {
                 fail(SAYING_TOO_MANY);
-            } else {
-                advance();
-                if (bar) {
-                    draft.beginTest();
-                    readTest();
-                } else {
-                    readSum(0);
-                    draft.beginTest();
-                    if (isWord(IF)) {
-                        advance();
-                        readTest();
-                    }
-                }
-                expectSign(';');
-                draft.endSaying();
+                return;
             }
+            advance();
+            if (!bar) {
+                readSum(0);
+            }
+            draft.beginTest();
+            if (bar) {
+                readTest();
+            } else if (isWord(IF)) {
+                advance();
+                readTest();
+            }
+            if (!isSign(';')) {
+                fail(CANNOT_STAND);
+            }
+            advance();
+            draft.endSaying();
         }
 
+        /** An or waits till the ands behind it are done. */
         private void readTest() {
-            readPart();
-            for (int i = 0; i < LONGEST_TEXT && isWord(OR); i++) {
-                advance();
-                readPart();
-                draft.emit(Wish.OR);
-            }
-        }
-
-        private void readPart() {
+            boolean orWaits = false;
             readOne();
-            for (int i = 0; i < LONGEST_TEXT && isWord(AND); i++) {
+            for (int i = 0; i < LONGEST_TEXT && (isWord(OR) || isWord(AND)); i++) {
+                boolean or = isWord(OR);
+                if (or && orWaits) {
+                    draft.emit(Wish.OR);
+                }
+                orWaits = orWaits || or;
                 advance();
                 readOne();
-                draft.emit(Wish.AND);
+                if (!or) {
+                    draft.emit(Wish.AND);
+                }
+            }
+            if (orWaits) {
+                draft.emit(Wish.OR);
             }
         }
 
@@ -998,31 +1005,41 @@ public final class CabinPeace {
             }
         }
 
+        /** A plus or minus waits till the times behind it are done. */
         private void readSum(int depth) {
-            readItem(depth);
-            for (int i = 0; i < LONGEST_TEXT && (isSign('+') || isSign('-')); i++) {
-                int joins = isSign('+') ? Wish.PLUS : Wish.MINUS;
-                advance();
-                readItem(depth);
-                draft.emit(joins);
-            }
-        }
-
-        private void readItem(int depth) {
+            int waits = NONE;
             readAtom(depth);
-            for (int i = 0; i < LONGEST_TEXT && isSign('*'); i++) {
+            for (int i = 0; i < LONGEST_TEXT && (isSign('+') || isSign('-') || isSign('*')); i++) {
+                boolean times = isSign('*');
+                if (!times && waits != NONE) {
+                    draft.emit(waits);
+                }
+                if (!times) {
+                    waits = isSign('+') ? Wish.PLUS : Wish.MINUS;
+                }
                 advance();
                 readAtom(depth);
-                draft.emit(Wish.TIMES);
+                if (times) {
+                    draft.emit(Wish.TIMES);
+                }
+            }
+            if (waits != NONE) {
+                draft.emit(waits);
             }
         }
 
         private void readAtom(int depth) {
+            int person = token == WORD ? people.find(value) : NONE;
             if (token == NUMBER) {
                 draft.emit((int) value);
-                advance();
-            } else if (token == WORD) {
-                readAtomWord();
+            } else if (person != NONE) {
+                draft.emit(Wish.NAMES + person);
+            } else if (isWord(SIZE)) {
+                draft.emit(Wish.SIZE);
+            } else if (isWord(KIN)) {
+                draft.emit(Wish.KIN);
+            } else if (token == WORD && !isKeyWord(value)) {
+                fail(UNKNOWN_WORD);
             } else if (!isSign('(')) {
                 fail(CANNOT_STAND);
             } else if (depth >= DEEPEST) {
@@ -1030,20 +1047,9 @@ public final class CabinPeace {
             } else {
                 advance();
                 readSum(depth + 1);
-                expectSign(')');
-            }
-        }
-
-        private void readAtomWord() {
-            int person = people.find(value);
-            if (isWord(SIZE)) {
-                draft.emit(Wish.SIZE);
-            } else if (isWord(KIN)) {
-                draft.emit(Wish.KIN);
-            } else if (person != NONE) {
-                draft.emit(Wish.NAMES + person);
-            } else {
-                fail(isKeyWord(value) ? CANNOT_STAND : UNKNOWN_WORD);
+                if (!isSign(')')) {
+                    fail(CANNOT_STAND);
+                }
             }
             advance();
         }
@@ -1068,6 +1074,7 @@ public final class CabinPeace {
             known[person] = 0;
         }
 
+        /** Works out what is not known yet: all groups of a new wish, and those with a new person. */
         void refresh() {
             int end = 1 << people.many;
             for (int p = 0; p < people.many; p++) {
@@ -1126,7 +1133,7 @@ public final class CabinPeace {
 
         boolean anyBetter(int who, int group, int other) {
             for (int p = 0; p < MOST_PEOPLE; p++) {
-                if ((who >> p & 1) == 1 && better(p, group, other)) {
+                if ((who >> p & 1) == 1 && value[group << 3 | p] > value[other << 3 | p]) {
                     return true;
                 }
             }
@@ -1135,7 +1142,7 @@ public final class CabinPeace {
 
         boolean allBetter(int who, int group, int other) {
             for (int p = 0; p < MOST_PEOPLE; p++) {
-                if ((who >> p & 1) == 1 && !better(p, group, other)) {
+                if ((who >> p & 1) == 1 && value[group << 3 | p] <= value[other << 3 | p]) {
                     return false;
                 }
             }
@@ -1166,7 +1173,6 @@ public final class CabinPeace {
         }
 
         boolean areFriends() {
-            refresh();
             for (int group = 1; group < 1 << people.many; group++) {
                 for (int p = 0; p < people.many; p++) {
                     if ((group >> p & 1) == 1 && !isFriendly(group, p)) {
@@ -1232,7 +1238,6 @@ public final class CabinPeace {
             if (fresh && set == newSet && sizes == newSizes && kind == newKind) {
                 return;
             }
-            worths.refresh();
             set = newSet;
             sizes = newSizes;
             kind = newKind;
@@ -1296,12 +1301,15 @@ public final class CabinPeace {
         /** Whether a group has no break that is its own affair, in whatever parting it stands. */
         boolean isQuiet(int group) {
             if (kind == CORE) {
-                return !hasCoreWithin(group);
-            }
-            if (kind < ALONE || kind > LEAVE) {
+                learnWants(group);
+                for (int goal = 1; goal < group; goal++) {
+                    if ((goal & ~group) == 0 && (wants[(group << 2) + (goal >> 6)] >>> (goal & 63) & 1) == 1) {
+                        return false;
+                    }
+                }
                 return true;
             }
-            int could = leave[group] & join[0];
+            int could = kind >= ALONE && kind <= LEAVE ? leave[group] & join[0] : 0;
             for (int p = 0; p < people.many; p++) {
                 if ((could >> p & 1) == 1 && worths.better(p, 1 << p, group)) {
                     return false;
@@ -1310,18 +1318,8 @@ public final class CabinPeace {
             return true;
         }
 
-        private boolean hasCoreWithin(int group) {
-            learnWants(group);
-            for (int goal = 1; goal < group; goal++) {
-                if ((goal & ~group) == 0 && (wants[(group << 2) + (goal >> 6)] >>> (goal & 63) & 1) == 1) {
-                    return true;
-                }
-            }
-            return false;
-        }
-
         /** Whether all lawful groups are barred by nobody and worth the same to all in them. */
-        boolean isAlike() {
+        boolean isAllAlike() {
             for (int group = 1; group <= set; group++) {
                 if (stands[group] && !worths.isAlike(group)) {
                     return false;
@@ -1540,24 +1538,13 @@ public final class CabinPeace {
             this.worths = worths;
         }
 
-        /** Looks through the breaks in order, up to so many. */
-        void seek(Parting told, int most) {
-            weighing = false;
-            stopMany = most;
-            look(told);
-        }
-
-        /** Looks for the worst one, till it is not below a limit. */
-        void weigh(Parting told, int limit) {
-            weighing = true;
-            stopMany = ENDLESS;
-            stopWorst = limit;
-            look(told);
-        }
-
-        private void look(Parting told) {
+        /** Looks through the breaks in order, up to so many; if limit is not NONE, also till worst is not below it. */
+        void look(Parting told, int most, int limit) {
             many = 0;
             worst = 0;
+            stopMany = most;
+            stopWorst = limit;
+            weighing = limit != NONE;
             if (world.kind == CORE) {
                 lookForCores(told);
             } else if (world.kind == SWAP) {
@@ -1577,7 +1564,9 @@ public final class CabinPeace {
                 goal = second;
             }
             many++;
-            worst = Math.max(worst, strength);
+            if (strength > worst) {
+                worst = strength;
+            }
         }
 
         private void lookForMoves(Parting told) {
@@ -1719,7 +1708,7 @@ public final class CabinPeace {
 
         int breaksOf(Parting told, int kind, int most) {
             world.aim(people.everyone(), people.sizes, kind);
-            breaks.seek(told, most);
+            breaks.look(told, most, NONE);
             return breaks.many;
         }
 
@@ -1731,7 +1720,7 @@ public final class CabinPeace {
 
         boolean nextPeace() {
             for (int i = 0; i < FAR && partings.next(); i++) {
-                breaks.seek(partings.now, 1);
+                breaks.look(partings.now, 1, NONE);
                 if (breaks.many == 0) {
                     return true;
                 }
@@ -1739,20 +1728,19 @@ public final class CabinPeace {
             return false;
         }
 
-        private boolean hasPeace(int set, int sizes, int kind) {
-            beginPeace(set, sizes, kind);
-            return nextPeace();
-        }
-
         int smallestKnot(int kind) {
             int everyone = people.everyone();
-            if (hasPeace(everyone, people.sizes, kind)) {
+            beginPeace(everyone, people.sizes, kind);
+            if (nextPeace()) {
                 return NONE;
             }
             for (int size = 1; size < people.many; size++) {
                 for (int set = 1; set < everyone; set++) {
-                    if (Integer.bitCount(set) == size && !hasPeace(set, people.sizes, kind)) {
-                        return set;
+                    if (Integer.bitCount(set) == size) {
+                        beginPeace(set, people.sizes, kind);
+                        if (!nextPeace()) {
+                            return set;
+                        }
                     }
                 }
             }
@@ -1770,7 +1758,7 @@ public final class CabinPeace {
             world.aim(people.everyone(), people.sizes, kind);
             partings.begin(false);
             for (int i = 0; i < FAR && fewest > 0 && partings.next(); i++) {
-                breaks.seek(partings.now, fewest);
+                breaks.look(partings.now, fewest, NONE);
                 if (breaks.many < fewest) {
                     fewest = breaks.many;
                     nearMany = fewest;
@@ -1784,91 +1772,97 @@ public final class CabinPeace {
             world.aim(people.everyone(), people.sizes, kind);
             partings.begin(false);
             for (int i = 0; i < FAR && least > 0 && partings.next(); i++) {
-                breaks.weigh(partings.now, least);
+                breaks.look(partings.now, ENDLESS, least);
                 least = Math.min(least, breaks.worst);
             }
             return least;
         }
 
-        void seekMends(int kind) {
+        /** Makes ready for the mends of a kind: whether they are to be looked for, by the three calls below. */
+        boolean beginMends(int kind) {
             if (mendKind == kind) {
-                return;
+                return false;
             }
             mendKind = kind;
-            for (int i = 0; i < ALL_MENDS; i++) {
-                mends[i] = NONE;
+            beginPeace(people.everyone(), people.sizes, kind);
+            boolean broken = !nextPeace();
+            for (int what = 0; what < ALL_MENDS; what++) {
+                boolean isCount = what == 0 || what == 3 || what == 5;
+                mends[what] = broken && isCount ? 0 : NONE;
             }
-            if (!hasPeace(people.everyone(), people.sizes, kind)) {
-                mends[0] = 0;
-                mends[3] = 0;
-                mends[5] = 0;
-                for (int p = 0; p < people.many; p++) {
-                    tryWordsOf(p, kind);
-                    trySize(p + 1, kind);
-                    tryWithout(p, kind);
-                }
-            }
+            return broken;
         }
 
-        private void tryWordsOf(int person, int kind) {
-            int sayings = worths.wishes[person].sayings;
-            for (int s = 0; s < sayings; s++) {
-                if (leaveOutBringsPeace(person, s, kind)) {
-                    if (mends[0] == 0) {
-                        mends[1] = person;
+        void tryWords() {
+            for (int p = 0; p < people.many; p++) {
+                for (int s = 0; s < worths.wishes[p].sayings; s++) {
+                    takeOut(p, s);
+                    beginPeace(people.everyone(), people.sizes, mendKind);
+                    boolean found = nextPeace();
+                    putBack(p);
+                    if (found && mends[0] == 0) {
                         mends[2] = s;
                     }
-                    mends[0]++;
+                    noteMend(found, 0, p);
                 }
             }
         }
 
-        /** The parting that is found, if one is, stays in partings.now. */
-        private boolean leaveOutBringsPeace(int person, int saying, int kind) {
-            worths.refresh();
+        void trySizes() {
+            for (int size = 1; size <= people.many; size++) {
+                int more = people.sizes | 1 << size - 1;
+                if (more != people.sizes) {
+                    beginPeace(people.everyone(), more, mendKind);
+                    noteMend(nextPeace(), 3, size);
+                }
+            }
+        }
+
+        void tryPeople() {
+            for (int p = 0; p < people.many; p++) {
+                beginPeace(people.everyone() & ~(1 << p), people.sizes, mendKind);
+                noteMend(nextPeace(), 5, p);
+            }
+        }
+
+        private void noteMend(boolean found, int what, int which) {
+            if (found && mends[what] == 0) {
+                mends[what + 1] = which;
+            }
+            mends[what] += found ? 1 : 0;
+        }
+
+        /** Till putBack all searches are without a saying. */
+        private void takeOut(int person, int saying) {
             worths.leaveOut(person, saying);
             world.fresh = false;
-            boolean found = hasPeace(people.everyone(), people.sizes, kind);
+        }
+
+        private void putBack(int person) {
             worths.bringBack(person);
             world.fresh = false;
-            return found;
-        }
-
-        private void trySize(int size, int kind) {
-            int more = people.sizes | 1 << size - 1;
-            if (more != people.sizes && hasPeace(people.everyone(), more, kind)) {
-                if (mends[3] == 0) {
-                    mends[4] = size;
-                }
-                mends[3]++;
-            }
-        }
-
-        private void tryWithout(int person, int kind) {
-            if (hasPeace(people.everyone() & ~(1 << person), people.sizes, kind)) {
-                if (mends[5] == 0) {
-                    mends[6] = person;
-                }
-                mends[5]++;
-            }
         }
 
         /** Whether there is peace with the saying and without it; if so, gained tells. */
         boolean weighGain(int kind, int person, int saying) {
-            if (!hasPeace(people.everyone(), people.sizes, kind)) {
+            beginPeace(people.everyone(), people.sizes, kind);
+            if (!nextPeace()) {
                 return false;
             }
             int with = worths.counted(person, partings.now.groupOf(person));
-            if (!leaveOutBringsPeace(person, saying, kind)) {
-                return false;
+            takeOut(person, saying);
+            beginPeace(people.everyone(), people.sizes, kind);
+            boolean found = nextPeace();
+            putBack(person);
+            if (found) {
+                gained = worths.counted(person, partings.now.groupOf(person)) - with;
             }
-            gained = worths.counted(person, partings.now.groupOf(person)) - with;
-            return true;
+            return found;
         }
 
         boolean areAlike() {
             world.aim(people.everyone(), people.sizes, NONE);
-            return world.isAlike();
+            return world.isAllAlike();
         }
 
         /** The greedy parting comes to built: whether there is one. */
@@ -1913,7 +1907,7 @@ public final class CabinPeace {
             for (int i = 0; i < FAR && fewest != 0 && partings.next(); i++) {
                 int moved = movedFrom(told, 1 << leaver);
                 if (fewest == NONE || moved < fewest) {
-                    breaks.seek(partings.now, 1);
+                    breaks.look(partings.now, 1, NONE);
                     if (breaks.many == 0) {
                         fewest = moved;
                         keepGone();

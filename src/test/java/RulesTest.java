@@ -5,7 +5,9 @@ import java.lang.reflect.Modifier;
 import java.nio.file.Files;
 import java.nio.file.Path;
 import java.util.Arrays;
+import java.util.Map;
 import java.util.Set;
+import java.util.TreeMap;
 import java.util.TreeSet;
 import java.util.regex.Matcher;
 import java.util.regex.Pattern;
@@ -29,6 +31,7 @@ public final class RulesTest {
     String source = Files.readString(Path.of(args.length > 0 ? args[0] : "src/main/java/CabinPeace.java"));
     source(bare(source));
     lengths(source);
+    depth(bare(source));
     System.out.println("RulesTest: " + wrong + " wrong");
     if (wrong > 0) { System.exit(1); }
   }
@@ -125,6 +128,35 @@ public final class RulesTest {
       if (inMethod && line.contains(" new ")) { many++; }
     }
     return many;
+  }
+
+  /** Methods of one name are taken for one, so the depth told is rather too great than too small. */
+  private static void depth(String bare) {
+    Map<String, Set<String>> calls = new TreeMap<>();
+    String method = null;
+    for (String line : bare.split("\n")) {
+      Matcher head = Pattern.compile("^ {4,8}[a-zA-Z].*?(\\w+)\\([^()]*\\) \\{\\s*$").matcher(line);
+      if (head.find()) {
+        method = head.group(1);
+        calls.putIfAbsent(method, new TreeSet<>());
+      } else if (method != null) {
+        Matcher call = Pattern.compile("(\\w+)\\(").matcher(line);
+        while (call.find()) { calls.get(method).add(call.group(1)); }
+      }
+    }
+    for (String name : faceNames()) {
+      int deep = depth(calls, name, new TreeSet<>());
+      demand(deep <= 8, name + "() goes " + deep + " calls deep");
+    }
+    demand(depth(calls, "wish", new TreeSet<>()) > 5, "the calls of wish() are not seen");
+  }
+
+  private static int depth(Map<String, Set<String>> calls, String name, Set<String> open) {
+    if (!calls.containsKey(name) || !open.add(name)) { return 0; }
+    int deepest = 0;
+    for (String callee : calls.get(name)) { deepest = Math.max(deepest, depth(calls, callee, open)); }
+    open.remove(name);
+    return deepest + 1;
   }
 
   private static void lengths(String source) {
