@@ -27,7 +27,7 @@ public final class CabinPeace {
     private static final int GREATEST_WORTH = 1_000_000;
     /** Below every worth, so that one comparison also tells a barred group from one that is not. */
     private static final int BARRED = -2_000_000;
-    private static final int ENDLESS = Integer.MAX_VALUE;
+    private static final int ENDLESS = 2_147_483_647;
     /** Far above what any walk through the partings can need. */
     private static final int FAR = 1_000_000;
 

@@ -14,6 +14,7 @@ public final class AllPartingsTest {
     bearBySayingNo();
     mendWords();
     mendSizesAndPeople();
+    mendAtTheEdges();
     sort();
     greedy();
     T.end();
@@ -197,6 +198,8 @@ public final class AllPartingsTest {
     Check.wish(c, 0, "add 30*b; add 11*c;");
     T.fine(29, "{ab}{c}: 12; {ac}{b}: a 19, b 10; {bc}{a}: a 11, c 28", c, c.bear(4), 10);
     T.fine(29, "moves: 15, 19, 28", c, c.bear(1), 15);
+    Check.wish(c, 0, "add 16*b; add 11*c;");
+    T.fine(29, "{ab}{c}: 12; {ac}{b}: a 5, b 10; {bc}{a}: a 11, c 28", c, c.bear(4), 5);
     c = Check.unhappy();
     T.none(29, "from a barred one: as ever", c, c.bear(1), 6);
     c.must(0, 1, true);
@@ -282,6 +285,28 @@ public final class AllPartingsTest {
     T.fine(30, "3", c, c.mend(4, 4), 3);
     T.fine(30, "c, d, e", c, c.mend(4, 5), 3);
     T.fine(30, "c", c, c.mend(4, 6), 2);
+  }
+
+  /** All eight places taken, and all twelve sayings of the last one. */
+  private static void mendAtTheEdges() {
+    CabinPeace c = Check.people(5);
+    c.sizes(3);
+    c.person(6, 0);
+    c.person(7, 0);
+    c.person(8, 0);
+    Check.wish(c, 5, "add 2*g; add h;");
+    Check.wish(c, 6, "add 2*h; add f;");
+    Check.wish(c, 7, "add 0;".repeat(10) + "add 2*f; add g;");
+    for (int p = 0; p < 5; p++) {
+      for (int q = 5; q < 8 && p < 4; q++) { c.must(p, q, false); }
+    }
+    Check.wish(c, 4, "bar size=2;");
+    T.fine(30, "the two last of h, and those of f and g; not the bar of e", c, c.mend(4, 0), 6);
+    T.fine(30, "the first is of f", c, c.mend(4, 1) * 10 + c.mend(4, 2), 50);
+    T.fine(30, "f, g or h", c, c.mend(4, 5), 3);
+    T.fine(30, "f", c, c.mend(4, 6), 5);
+    T.fine(30, "groups of three, of four", c, c.mend(4, 4), 3);
+    T.fine(26, "f, g and h", c, c.knot(4), 224);
   }
 
   private static void sort() {
