@@ -329,6 +329,11 @@ public final class EdgesOfPeopleTest {
     T.fine(16, "a, b, c", c, c.lawful(7), 0);
     T.fine(16, "a alone", c, c.lawful(1), 0);
     T.fine(16, "neither of them, still", c, c.lawful(8), 1);
+    for (int a = 0; a < 8; a++) {
+      for (int b = 0; b < 8; b++) {
+        if (a != b) { mustOfTwo(a, b); }
+      }
+    }
     c = Check.people(2);
     c.must(1, 0, true);
     c.must(0, 1, false);
@@ -343,6 +348,19 @@ public final class EdgesOfPeopleTest {
     T.fine(16, "together, told the other way round", c, c.lawful(1), 0);
     T.fine(16, "the other one", c, c.lawful(2), 0);
     T.fine(16, "both", c, c.lawful(3), 1);
+  }
+
+  private static void mustOfTwo(int a, int b) {
+    CabinPeace with = Check.people(8);
+    CabinPeace without = Check.people(8);
+    T.yes(9, "together", with, with.must(a, b, true));
+    T.yes(9, "apart", without, without.must(a, b, false));
+    int both = 1 << a | 1 << b;
+    for (int group : new int[] {1 << a, 1 << b, both, 255, 255 ^ both, 255 ^ 1 << a, 255 ^ 1 << b}) {
+      int inside = Integer.bitCount(group & both);
+      T.fine(16, "together " + a + " " + b + ": " + group, with, with.lawful(group), inside == 1 ? 0 : 1);
+      T.fine(16, "apart " + a + " " + b + ": " + group, without, without.lawful(group), inside == 2 ? 0 : 1);
+    }
   }
 
   private static void mustsOfThoseWhoComeLater() {

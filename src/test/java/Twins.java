@@ -70,6 +70,8 @@ final class Twins {
           add(b, c.bars(p, g | 1 << p));
         }
         add(b, c.room(5, 0, p));
+        add(b, c.rather(p, 1 << p, 15 | 1 << p));
+        add(b, c.rather(p, 15 | 1 << p, 1 << p));
         for (int s = 0; s < 3; s++) { add(b, c.gain(5, p, s)); }
       }
     }
