@@ -20,6 +20,7 @@ public final class EdgesOfPeaceTest {
     nearAnew();
     bearByOne();
     bearAtTheEnds();
+    bearOfBlocs();
     bearNone();
     words();
     wordsOfAll();
@@ -367,6 +368,35 @@ public final class EdgesOfPeaceTest {
     Check.wish(c, 0, "add 3*b;");
     T.fine(29, "b bars {ab}: a must bear to be alone", c, c.bear(1), 3);
   }
+
+  /** Three who chase each other, each of them some people who must be together: what breaks is any group up to 254. */
+  private static void bearOfBlocs() {
+    int[][] two = {{1, 2}, {1, 4}, {7, 56}, {63, 64}, {64, 128}, {64, 1}, {128, 1}, {31, 32}, {128, 63}, {192, 1},
+        {64, 32}, {128, 126}, {96, 128}, {62, 64}, {2, 252}, {64, 62}, {32, 16}};
+    for (int[] pair : two) { bearOfBlocs(pair[0], pair[1], 255 ^ pair[0] ^ pair[1]); }
+  }
+
+  private static void bearOfBlocs(int... bloc) {
+    CabinPeace c = Check.people(8);
+    int[][] likes = {{0, 20, 15}, {10, 0, 20}, {30, 11, 0}};
+    for (int i = 0; i < 3; i++) {
+      StringBuilder wish = new StringBuilder("add 0");
+      for (int j = 0; j < 3; j++) { wish.append('+').append(likes[i][j]).append('*').append((char) ('a' + least(bloc[j]))); }
+      for (int p = 0; p < 8; p++) {
+        boolean inside = (bloc[i] >> p & 1) == 1;
+        if (inside) { Check.wish(c, p, wish + ";"); }
+        if (inside && p != least(bloc[i])) { c.must(least(bloc[i]), p, true); }
+      }
+    }
+    c.sizes(127);
+    String what = "blocs " + bloc[0] + ", " + bloc[1] + ", " + bloc[2];
+    T.fine(22, what, c, c.count(-1), 4);
+    T.fine(22, what, c, c.count(4), 0);
+    T.fine(29, what + ": the first bears 5 to be with the third", c, c.bear(4), 5);
+    T.fine(27, what + ": one break where two are together", c, c.near(4), 1);
+  }
+
+  private static int least(int group) { return Integer.numberOfTrailingZeros(group); }
 
   private static void bearNone() {
     CabinPeace c = Check.unhappy();

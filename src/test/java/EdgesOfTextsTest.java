@@ -103,6 +103,14 @@ public final class EdgesOfTextsTest {
     T.none(11, "296 letters", c, Check.wish(c, 0, "add " + "z".repeat(296)), 9);
     T.due(12, "no name", c.fault(0) * 1000 + c.fault(1), 3004);
     T.fine(13, "the wish stays", c, c.worth(0, 1), 1111);
+    for (String token : new String[] {";", "(", ")", "1", "="}) {
+      T.none(11, "300 tokens, or one of 300 digits", c, Check.wish(c, 0, token.repeat(300)), 9);
+      T.due(12, "the first can't stand there", c.fault(0) * 1000 + c.fault(1), token.equals("1") ? 1000 : 2000);
+    }
+    T.fine(11, "299 tokens and a blank", c, Check.wish(c, 0, "add1" + "+1".repeat(147) + "; "), 1);
+    T.fine(13, "148", c, c.worth(0, 1), 148);
+    T.none(11, "297 tokens and no end", c, Check.wish(c, 0, "add" + "1+".repeat(148) + "1"), 9);
+    T.due(12, "the end", c.fault(0) * 1000 + c.fault(1), 2300);
     T.fine(11, "300 bytes of sayings", c, Check.wish(c, 0, "add 1 if 1=1 and not 2=1;".repeat(12)), 12);
     T.fine(13, "twelve", c, c.worth(0, 1), 12);
     T.fine(11, "tests to the last byte", c, Check.wish(c, 0, "bar 1=2" + "or 1=2".repeat(48) + "\n   ;"), 1);
