@@ -25,6 +25,8 @@ public final class AgainstOracleTest {
       AgainstOracleTest run = new AgainstOracleTest(s, most);
       if (s % 20 == 7 && args.length < 4) {
         run.playLongRuns();
+      } else if (s % 5 == 3 && args.length < 4) {
+        run.playAtTheEdges();
       } else {
         run.play();
       }
@@ -76,6 +78,29 @@ public final class AgainstOracleTest {
       both.call("run", 0, kind, chance(70) ? 200 : 1 + pick(20));
       for (int what = 0; what < 3; what++) { both.call("ran", what); }
       readAll(0);
+    }
+  }
+
+  private static final String[] CALLS = {"tray 3", "write 3", "read 2", "pour 5", "person 2", "sizes 1", "must 3", "feed 5", "wish 2",
+      "fault 1", "worth 2", "bars 2", "rather 3", "lawful 1", "breaks 2", "first 3", "step 2", "run 3", "ran 1", "count 1", "room 3",
+      "sum 2", "together 3", "knot 1", "near 1", "nearRoom 2", "bear 1", "mend 2", "sort 1", "greedy 1", "gain 3", "weeks 2",
+      "week 1", "goes 3", "gone 1"};
+  private static final int[] EDGES = {Integer.MIN_VALUE, Integer.MIN_VALUE + 1, -256, -2, -1, 0, 1, 2, 3, 4, 5, 6, 7, 8, 9, 10, 15, 16,
+      31, 32, 59, 60, 61, 63, 64, 127, 128, 199, 200, 201, 254, 255, 256, 257, 300, 301, Integer.MAX_VALUE - 1, Integer.MAX_VALUE};
+
+  /** Any call with numbers at the limits of whatever there is, few of which can be. */
+  private void playAtTheEdges() {
+    for (int i = pick(5); i > 0; i--) { addPerson(3); }
+    for (int p = 0; p < many; p++) { if (chance(70)) { wishFor(p); } }
+    if (chance(70)) { for (int t = 0; t < 4; t++) { if (chance(60)) { tellSome(t); } } }
+    for (int i = 0; i < 350 && both.wrong == 0; i++) {
+      String[] call = CALLS[pick(CALLS.length)].split(" ");
+      long[] x = new long[Integer.parseInt(call[1])];
+      for (int j = 0; j < x.length; j++) { x[j] = chance(60) ? pick(5) : EDGES[pick(EDGES.length)]; }
+      if (call[0].equals("person") && (many >= 4 || chance(50))) { x[0] = chance(50) ? random.nextLong() : 1; }
+      if (call[0].equals("must")) { x[2] = pick(2); }
+      if (call[0].equals("write") && chance(20)) { x[2] = random.nextLong() >> pick(64); }
+      if (both.call(call[0], x) >= 0 && call[0].equals("person")) { many++; }
     }
   }
 
