@@ -53,8 +53,8 @@ public final class AgainstOracleTest {
     kindly = pick(11);
     for (int p = 0; p < many; p++) { if (chance(90)) { wishFor(p); } }
     for (int t = 0; t < 3; t++) { tellSome(t); }
-    int calls = 60 + pick(60);
-    for (int i = 0; i < calls && both.wrong == 0; i++) { ask(); }
+    int calls = 100 + pick(150);
+    for (int i = 0; i < calls && both.wrong == 0 && !both.isUsedUp(); i++) { ask(); }
   }
 
   /** Eight people with worths that look like chance: runs of many steps, with rings far behind the start. */
@@ -62,13 +62,13 @@ public final class AgainstOracleTest {
     for (int i = 0; i < 8; i++) { addPerson(1); }
     for (int p = 0; p < 8; p++) {
       StringBuilder b = new StringBuilder("add 0");
-      while (b.length() < 270) {
+      while (b.length() < 160 + pick(110)) {
         b.append(chance(50) ? '+' : '-').append(pick(1000));
         for (int i = 1 + pick(3); i > 0; i--) { b.append('*').append(NAMES[pick(7)]); }
       }
       both.wish(p, b.append(';').toString());
     }
-    for (int i = 0; i < 25 && both.wrong == 0; i++) {
+    for (int i = 0; i < 25 && both.wrong == 0 && !both.isUsedUp(); i++) {
       both.call("tray", 0, pick(4), 8);
       for (int p = 0; p < 8; p++) { both.call("write", 0, p, pick(8)); }
       both.call("pour", 0, 0, 0, 0, 8);
@@ -93,7 +93,7 @@ public final class AgainstOracleTest {
     for (int i = pick(5); i > 0; i--) { addPerson(3); }
     for (int p = 0; p < many; p++) { if (chance(70)) { wishFor(p); } }
     if (chance(70)) { for (int t = 0; t < 4; t++) { if (chance(60)) { tellSome(t); } } }
-    for (int i = 0; i < 350 && both.wrong == 0; i++) {
+    for (int i = 0; i < 350 && both.wrong == 0 && !both.isUsedUp(); i++) {
       String[] call = CALLS[pick(CALLS.length)].split(" ");
       long[] x = new long[Integer.parseInt(call[1])];
       for (int j = 0; j < x.length; j++) { x[j] = chance(60) ? pick(5) : EDGES[pick(EDGES.length)]; }

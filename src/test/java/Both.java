@@ -7,16 +7,25 @@ final class Both {
   final Oracle oracle = new Oracle();
   final List<String> calls = new ArrayList<>();
   int wrong = 0;
+  /** An object is used for at most 512 calls. */
+  private int left = 512;
 
+  boolean isUsedUp() { return left < 2; }
+
+  /** NONE, and nothing is done, if no call is left. */
   long call(String name, long... x) {
+    if (isUsedUp()) { return Oracle.NONE; }
+    boolean hasStatus = !name.equals("feed") && !name.equals("fault") && !name.equals("status");
     long got = on(program, name, x);
     long due = oracle.call(name, x);
+    int status = hasStatus ? program.status() : oracle.status();
+    left -= hasStatus ? 2 : 1;
     StringBuilder line = new StringBuilder(name).append('(');
     for (int i = 0; i < x.length; i++) { line.append(i > 0 ? ", " : "").append(x[i]); }
-    calls.add(line.append(") = ").append(got).append(" [").append(program.status()).append(']').toString());
-    if (got != due || program.status() != oracle.status()) {
+    calls.add(line.append(") = ").append(got).append(" [").append(status).append(']').toString());
+    if (got != due || status != oracle.status()) {
       wrong++;
-      System.out.println("answered " + got + " with status " + program.status()
+      System.out.println("answered " + got + " with status " + status
           + ", due is " + due + " with status " + oracle.status() + ", in this run:");
       for (String call : calls) { System.out.println("  " + call); }
     }

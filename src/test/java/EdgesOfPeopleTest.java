@@ -42,8 +42,9 @@ public final class EdgesOfPeopleTest {
       for (int place = 0; place < 60; place++) { c.write(tray, place, tray * 20 + place); }
     }
     for (int tray = 0; tray < 4; tray++) {
-      for (int place = 0; place < 60; place++) { T.fine(5, "place " + place, c, c.read(tray, place), tray * 20 + place); }
+      for (int place = 0; place < 60; place++) { T.due(5, "place " + place, c.read(tray, place), tray * 20 + place); }
     }
+    T.due(5, "status()", c.status(), 0);
   }
 
   private static void cut(int sort, long v, long want) {
