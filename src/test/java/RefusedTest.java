@@ -337,6 +337,15 @@ public final class RefusedTest {
     Twins.refused(T, 9, FULL, 1, "must", 7, 8, 0);
     Twins.refused(T, 11, FULL, 1, "wish", 0, 301);
     Twins.refused(T, 11, FULL, 1, "wish", 8, 300);
+    // a and b are together and apart: there are no partings, and neither word nor size helps.
+    for (int kind = 0; kind < 6; kind++) {
+      Twins.refused(T, 27, FULL, 6, "near", kind);
+      Twins.refused(T, 28, FULL, 6, "nearRoom", kind, 7);
+      Twins.refused(T, 29, FULL, 6, "bear", kind);
+      for (int what : new int[] {1, 2, 4}) { Twins.refused(T, 30, FULL, 6, "mend", kind, what); }
+      Twins.refused(T, 34, FULL, 6, "weeks", kind, 1);
+    }
+    Twins.refused(T, 32, FULL, 6, "greedy", 7);
     // feed() has no STATUS, and is refused all the same.
     for (int part = 0; part < 4; part++) {
       CabinPeace c = full();
