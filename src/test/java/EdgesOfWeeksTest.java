@@ -18,6 +18,7 @@ public final class EdgesOfWeeksTest {
     fewestMoved();
     firstOfSeveral();
     goesWithoutMusts();
+    whoGoesBreaksNothing();
     goesNone();
     latestGone();
     T.end();
@@ -81,6 +82,11 @@ public final class EdgesOfWeeksTest {
     T.fine(33, "another bar bars it still", c, c.gain(4, 0, 1), 0);
     Check.wish(c, 0, "add 0-1000*1000; bar b=1;");
     T.fine(33, "a barred one counts as the least", c, c.gain(4, 0, 1), 0);
+    Check.wish(c, 0, "add 1000*1000*b; add 1000*1000*b; add 5 if size=1;");
+    T.fine(33, "what is left is cut, not what was: with b still", c, c.gain(4, 0, 0), 0);
+    Check.wish(c, 0, "add 0-1000*1000*b; add 0-1000*1000*b; add 1000*1000*b; add 1000*1000*b; add 0-5 if size=1;");
+    T.fine(33, "0 with b; without a word -1,000,000: alone for -5", c, c.gain(4, 0, 2), -5);
+    T.fine(33, "0 with b; without a word 1,000,000", c, c.gain(4, 0, 0), 0);
     Check.wish(c, 0, "add 1 if size=1; add 0;");
     T.fine(33, "a -1 that is no NONE", c, c.gain(4, 0, 0), -1);
     T.fine(33, "a 0", c, c.gain(4, 0, 1), 0);
@@ -321,6 +327,31 @@ public final class EdgesOfWeeksTest {
     Check.wish(c, 2, "add a;");
     T.fine(36, "b goes: a and c come together", c, c.goes(0, 4, 1), 2);
     T.fine(16, "the musts are there still", c, c.lawful(1), 0);
+  }
+
+  /** Each one in turn goes, with whom another one would swap, or to whom, or who would move itself. */
+  private static void whoGoesBreaksNothing() {
+    for (int p = 0; p < 8; p++) {
+      int q = (p + 1) % 8;
+      int r = (p + 2) % 8;
+      CabinPeace c = Check.people(8);
+      Check.wish(c, q, "add 1 if size=1;");
+      Check.wish(c, p, "add " + (char) ('a' + r) + ";");
+      c.tray(0, 0, 8);
+      for (int i = 0; i < 8; i++) { c.write(0, i, i == r ? q : i); }
+      T.fine(17, "q would swap with p", c, c.breaks(0, 5), 1);
+      T.fine(22, "not all have peace", c, c.count(5) < 4140 ? 1 : 0, 1);
+      T.fine(36, "p goes: nobody swaps", c, c.goes(0, 5, p), 0);
+      T.due(37, "q is with r", c.gone(q) == c.gone(r), true);
+      Check.wish(c, q, "");
+      T.fine(17, "p would move to r", c, c.breaks(0, 1), 1);
+      T.fine(36, "p goes: nobody moves", c, c.goes(0, 1, p), 0);
+      Check.wish(c, q, "add 5*" + (char) ('a' + p) + ";");
+      Check.wish(c, p, "add 5*" + (char) ('a' + q) + ";");
+      T.fine(17, "p and q would come together", c, c.first(0, 4, 0), 1 << p | 1 << q);
+      T.fine(36, "p goes: nobody comes together", c, c.goes(0, 4, p), 0);
+      T.none(37, "p has no group", c, c.gone(p), 6);
+    }
   }
 
   private static void goesNone() {
