@@ -23,6 +23,7 @@ public final class EdgesOfPeaceTest {
     bearOfBlocs();
     bearNone();
     words();
+    wordsAtTheCut();
     wordsOfAll();
     sizes();
     persons();
@@ -439,6 +440,24 @@ public final class EdgesOfPeaceTest {
     T.fine(30, "the first of twelve", c, c.mend(1, 0) * 100 + c.mend(1, 2), 100);
     T.fine(15, "wishes are as they were", c, c.rather(1, 2, 3), 1);
     T.fine(22, "wishes are as they were", c, c.count(1), 0);
+  }
+
+  /** A bar left out changes no worth: those at the cut, and just beyond it, stay alike. */
+  private static void wordsAtTheCut() {
+    String[] cut = {"add 1000*1000; add 1 if size=1;", "add 0-1000*1000; add 0-1 if size=2;"};
+    for (String worths : cut) {
+      CabinPeace c = Check.people(2);
+      Check.wish(c, 0, "bar size=2;" + worths);
+      Check.wish(c, 1, "add a;");
+      T.fine(22, "b comes, a leaves", c, c.count(1), 0);
+      T.fine(30, "a's bar, b's word", c, c.mend(1, 0), 2);
+      T.fine(30, "a's bar first", c, c.mend(1, 1) * 10 + c.mend(1, 2), 0);
+    }
+    CabinPeace c = Check.people(2);
+    Check.wish(c, 0, "bar size=2; add 1000*1000-1; add 1 if size=1;");
+    Check.wish(c, 1, "add a;");
+    T.fine(30, "just below the cut a would be alone, bar or not", c, c.mend(1, 0), 1);
+    T.fine(30, "b's word", c, c.mend(1, 1) * 10 + c.mend(1, 2), 10);
   }
 
   private static void wordsOfAll() {

@@ -19,6 +19,7 @@ public final class EdgesOfWeeksTest {
     firstOfSeveral();
     goesWithoutMusts();
     whoGoesBreaksNothing();
+    whoGoesSwapsNot();
     goesNone();
     latestGone();
     T.end();
@@ -351,6 +352,26 @@ public final class EdgesOfWeeksTest {
       T.fine(17, "p and q would come together", c, c.first(0, 4, 0), 1 << p | 1 << q);
       T.fine(36, "p goes: nobody comes together", c, c.goes(0, 4, p), 0);
       T.none(37, "p has no group", c, c.gone(p), 6);
+    }
+  }
+
+  /** Each one in turn goes, who likes many around it and whom all others like: each stays where it is, alone. */
+  private static void whoGoesSwapsNot() {
+    for (int n = 3; n <= 8; n++) {
+      for (int p = 0; p < n; p++) {
+        CabinPeace c = Check.people(n);
+        Check.wish(c, p, "add size;");
+        for (int q = 0; q < n; q++) {
+          if (q != p) { Check.wish(c, q, "add 9*" + (char) ('a' + p) + ";"); }
+        }
+        c.tray(0, 0, n);
+        for (int i = 0; i < n; i++) { c.write(0, i, i); }
+        c.count(5);
+        T.fine(36, p + " of " + n + " goes", c, c.goes(0, 5, p), 0);
+        for (int q = 0, next = 0; q < n; q++) {
+          if (q != p) { T.fine(37, "alone, as they were", c, c.gone(q), next++); }
+        }
+      }
     }
   }
 
